@@ -234,7 +234,7 @@ public final class SummedBases {
             return MISSING;
         }
         long v = base.valueOf(held.digits);
-        return v > base.top ? STATE : turnTo(reel, v);
+        return v > base.top ? STATE : turnTo(reel, base, held.digits, v);
     }
 
     public int shift(int reel, int n) {
@@ -266,7 +266,7 @@ public final class SummedBases {
             return STATE;
         }
         long v = base.valueOf(held.digits) + t;
-        return v < 0 || v > base.top ? FULL : turnTo(reel, v);
+        return v < 0 || v > base.top ? FULL : turnTo(reel, base, held.digits, v);
     }
 
     public int soon(int reel, int k) {
@@ -376,7 +376,7 @@ public final class SummedBases {
         if (k == -1) {
             return size;
         }
-        return k < size && k < page.length ? page[k] : OUTSIDE;
+        return k < size ? page[k] : OUTSIDE;
     }
 
     public int feed(int letter) {
@@ -392,13 +392,13 @@ public final class SummedBases {
             return BAD;
         }
         int fault = tape.fault(asked.high);
-        int numbers = 0;
+        int answer = FAULT_BASE - fault;
         if (fault == NONE) {
-            numbers = tape.numbersInto(draft);
+            answer = tape.numbersInto(draft);
             fillReel(reel, asked, draft);
         }
         tape.size = 0;
-        return fault == NONE ? numbers : FAULT_BASE - fault;
+        return answer;
     }
 
     // ---- deeds, rows
@@ -485,7 +485,7 @@ public final class SummedBases {
             return MISSING;
         }
         told.become(base.high);
-        for (int k = 0; k < base.high && told.hasPlace(k); k++) {
+        for (int k = 0; k < held.digits.length && told.hasPlace(k); k++) {
             told.numbers[k] = held.digits[k];
         }
         return base.high;
@@ -586,20 +586,12 @@ public final class SummedBases {
         return 1;
     }
 
-    /** A deed by which a reel is the GREEDY of v: how many digits are otherwise. */
-    private int turnTo(int reel, long v) {
-        Reel held = reelAt(reel);
-        if (held == null) {
-            return BAD;
-        }
-        Base base = held.base;
-        if (base == null) {
-            return MISSING;
-        }
-        deeds.keep(reel, held.digits);
+    /** A deed by which a reel's digits are the GREEDY of v: how many are otherwise. */
+    private int turnTo(int reel, Base base, int[] digits, long v) {
+        deeds.keep(reel, digits);
         base.greedyInto(draft, v);
-        int turned = countUnlike(held.digits, draft);
-        copyDigits(draft, held.digits);
+        int turned = countUnlike(digits, draft);
+        copyDigits(draft, digits);
         return turned;
     }
 
@@ -845,7 +837,7 @@ public final class SummedBases {
         }
 
         boolean canCarry(int[] digits, int k, int by) {
-            if (!hasPlace(k) || !hasPlace(k + 1) || k + 1 >= digits.length) {
+            if (!hasPlace(k) || !hasPlace(k + 1)) {
                 return false;
             }
             return isDigit(digits[k + 1] + by)
@@ -891,7 +883,7 @@ public final class SummedBases {
         void shiftInto(int[] to, int[] digits, int n) {
             for (int k = 0; k < to.length; k++) {
                 int from = k - n;
-                to[k] = hasPlace(k) && hasPlace(from) && from < digits.length ? digits[from] : 0;
+                to[k] = hasPlace(k) && hasPlace(from) ? digits[from] : 0;
             }
         }
 
@@ -901,13 +893,13 @@ public final class SummedBases {
          * instead, and turns the next time.
          */
         long turnAhead(int[] digits, int k) {
-            if (!hasPlace(k) || k >= digits.length) {
+            if (!hasPlace(k)) {
                 return NO;
             }
             boolean whole = k > 0 && digits[k] == steps[k];
             long room = whole ? worths[k - 1] : worths[k];
             long ahead = room - valueBelow(digits, k);
-            boolean stays = digits[k] == 0 && hasPlace(k + 1) && k + 1 < digits.length && digits[k + 1] == steps[k + 1];
+            boolean stays = digits[k] == 0 && hasPlace(k + 1) && digits[k + 1] == steps[k + 1];
             return stays ? ahead + worths[k] : ahead;
         }
 

@@ -278,6 +278,8 @@ public final class Promises {
         x.digit(0, 27, 2);
         due("the highest place", x.told(0, 3), 27);
         due("the highest place at its whole step", x.told(0, 1), 1);
+        x.write(0, 1, 2);
+        due("highest of 2", x.told(0, 3), 0);
         x.write(0, 1, 0);
         due("base of 0", x.told(0, 0), 1);
         due("0 is legal", x.told(0, 1), 1);
@@ -619,7 +621,7 @@ public final class Promises {
                     int was = x.at(0, k);
                     int told = x.soon(0, k);
                     int steps = 0;
-                    while (x.at(0, k) == was) {
+                    while (x.at(0, k) == was && steps < 100) {
                         x.on(0, 1);
                         steps++;
                     }
@@ -1035,9 +1037,11 @@ public final class Promises {
         SummedBases x = new SummedBases();
         due("row(0, 60)", x.row(0, 60), 1);
         due("put(0, 59, 5)", x.put(0, 59, 5), 1);
+        due("put(0, 0, 5)", x.put(0, 0, 5), 1);
         due("get(0, 60)", x.get(0, 60), NO);
         due("row(0, 60) again", x.row(0, 60), 1);
         due("all are 0", x.get(0, 59), 0);
+        due("all are 0", x.get(0, 0), 0);
         due("row(1, 0)", x.row(1, 0), 1);
         due("get(1, 0)", x.get(1, 0), NO);
         due("put(1, 0, 1)", x.put(1, 0, 1), -12);
