@@ -764,7 +764,6 @@ public final class SummedBases {
         private void makeWorths() {
             long below = 1;
             long worth = 1;
-            high = 0;
             for (int k = 0; k < worths.length && worth <= MOST_WORTH; k++) {
                 worths[k] = worth;
                 high = k + 1;
