@@ -1151,11 +1151,15 @@ public final class SummedBases {
         /** How many times the worth is taken where the next rest is the least; NONE if there is no rest more. */
         private int nextLeast(long worth, int m) {
             int best = NONE;
-            long least = Long.MAX_VALUE;
+            long least = 0;
             for (int c = 0; c <= m && c < next.length; c++) {
                 int i = next[c];
-                if (i >= 0 && i < from.size && i < Rests.MOST && from.rests[i] - c * worth < least) {
-                    least = from.rests[i] - c * worth;
+                if (i < 0 || i >= from.size || i >= Rests.MOST) {
+                    continue;
+                }
+                long rest = from.rests[i] - c * worth;
+                if (best == NONE || rest < least) {
+                    least = rest;
                     best = c;
                 }
             }

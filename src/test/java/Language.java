@@ -30,6 +30,9 @@ public final class Language {
         "transient", "native", "strictfp", "Exact", "System\\.(?!arraycopy)", "Object", "Thread", "Random", "hashCode",
         "toString", "->", "::", "var"};
 
+    /** Of the library the class takes no more than this; Long.MIN_VALUE is the document's own word for NO. */
+    private static final Set<String> TAKEN = Set.of("System.arraycopy", "Math.min", "Math.max", "Long.MIN_VALUE");
+
     private static final int MOST_LINES = 60;
     private static final int MOST_PARAMETERS = 7;
     private static final int MOST_CLASSES = 12;
@@ -143,11 +146,26 @@ public final class Language {
                 tell("'" + m.group() + "' may not stand in the text");
             }
         }
+        checkLibrary(text);
         if (text.contains("\"")) {
             tell("a text stands in the class, which needs none");
         }
         for (String made : new String[] {"public", "private"}) {
             checkNewOnlyInConstructors(text, made);
+        }
+    }
+
+    /** A name of the library stands ahead of a point: the class names its own classes so only for their constants. */
+    private static void checkLibrary(String text) {
+        Set<String> own = new TreeSet<>();
+        for (Class<?> c : SummedBases.class.getDeclaredClasses()) {
+            own.add(c.getSimpleName());
+        }
+        Matcher m = Pattern.compile("\\b([A-Z][a-z]\\w*)\\.(\\w+)").matcher(text);
+        while (m.find()) {
+            if (!own.contains(m.group(1)) && !TAKEN.contains(m.group())) {
+                tell(m.group() + " is not of the library that may be taken");
+            }
         }
     }
 
